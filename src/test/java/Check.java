@@ -18,6 +18,11 @@ final class Check {
         promise = "promise " + number + ", " + name + ": ";
     }
 
+    /** What follows looks at this sentence of the document. */
+    void says(String sentence) {
+        promise = "'" + sentence + "': ";
+    }
+
     void due(long want, long got) {
         due("answered", want, got);
     }
@@ -40,6 +45,19 @@ final class Check {
         }
     }
 
+    void dueText(String want, String got) {
+        looked++;
+        if (!want.equals(got)) {
+            int at = 0;
+            while (at < want.length() && at < got.length() && want.charAt(at) == got.charAt(at)) {
+                at++;
+            }
+            int from = Math.max(0, at - 40);
+            tell("answered .." + got.substring(from, Math.min(got.length(), at + 20)) + ".., due is .."
+                    + want.substring(from, Math.min(want.length(), at + 20)) + "..");
+        }
+    }
+
     /** The exception must be of this very class: what the machine throws by itself is of a class below it. */
     void dueThrow(Class<? extends RuntimeException> want, Call call) {
         looked++;
@@ -54,10 +72,9 @@ final class Check {
 
     private void tell(String what) {
         wrong++;
-        StackTraceElement[] trace = new Throwable().getStackTrace();
         int line = 0;
-        for (StackTraceElement element : trace) {
-            if (line == 0 && !element.getClassName().startsWith("Check")) {
+        for (StackTraceElement element : new Throwable().getStackTrace()) {
+            if (line == 0 && element.getClassName().equals(title)) {
                 line = element.getLineNumber();
             }
         }

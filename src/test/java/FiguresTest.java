@@ -1,3 +1,5 @@
+import java.util.NoSuchElementException;
+
 /** Promises 49 to 52: the figures. */
 public final class FiguresTest {
     private static final Check CHECK = new Check("FiguresTest");
@@ -10,6 +12,8 @@ public final class FiguresTest {
         meanSize();
         isSound();
         isUnsoundByKeys();
+        isUnsoundByOneKey();
+        isUnsoundByValues();
         CHECK.end();
     }
 
@@ -141,12 +145,117 @@ public final class FiguresTest {
         x.recover(1);
         // more than 6 versions never do
         CHECK.due(7, x.sizeOf(0));
+        CHECK.due('r', x.phase());
         CHECK.due(false, x.isSound());
         x.recover(99);
         CHECK.due(11, x.value(1));
         CHECK.due(false, x.isSound());
+        seventhVersionStays(x);
         x.clean();
         CHECK.due(6, x.sizeOf(0));
+        for (int key = 0; key < 7; key++) {
+            CHECK.due(x.valueByReplay(key), x.value(key));
+        }
+        // only the keys are wrong now
         CHECK.due(false, x.isSound());
+    }
+
+    private static void seventhVersionStays(RiptideLedger x) {
+        x.force();
+        x.writePage(0);
+        x.crash(-1);
+        CHECK.due(7, x.sizeOf(0));
+        CHECK.due(5, x.keyAt(0, 6));
+        x.recover(99);
+        CHECK.due(7, x.sizeOf(0));
+        CHECK.due(5, x.valueAt(0, 6));
+    }
+
+    /** A store whose page 0 was remade up to a record, before its split, then written, and is behind recovery. */
+    private static RiptideLedger halfRemade(int record, int... keys) {
+        RiptideLedger x = filled(0);
+        for (int key : keys) {
+            x.put(0, key, key);
+        }
+        x.commit(0);
+        x.force();
+        x.writePage(0);
+        x.writePage(1);
+        x.mark();
+        x.begin(0);
+        x.lock(1, 0, 0, true);
+        x.put(1, 0, 1);
+        x.commit(1);
+        x.force();
+        x.crash(0);
+        x.recover(3 + record);
+        x.writePage(0);
+        x.crash(-1);
+        x.recover(99);
+        return x;
+    }
+
+    private static void isUnsoundByOneKey() {
+        CHECK.promise(52, "isSound");
+        // the page 0 ends below 9: it has versions of the key 9 alone that are beyond
+        RiptideLedger x = halfRemade(4, 1, 2, 3, 9, 9, 9, 10);
+        CHECK.due('d', x.phase());
+        CHECK.due(9, x.lowOf(1));
+        CHECK.due(5, x.sizeOf(0));
+        CHECK.due(9, x.keyAt(0, 4));
+        CHECK.due(x.valueByReplay(9), x.value(9));
+        CHECK.due(false, x.isSound());
+        // it has none of the key 9, but one that is greater
+        RiptideLedger y = halfRemade(5, 1, 2, 3, 20, 30, 9, 10);
+        CHECK.due(9, y.lowOf(1));
+        CHECK.due(6, y.sizeOf(0));
+        CHECK.due(20, y.keyAt(0, 4));
+        CHECK.due(y.valueByReplay(20), y.value(20));
+        CHECK.due(false, y.isSound());
+        // remade up to the split, it is sound
+        RiptideLedger z = halfRemade(7, 1, 2, 3, 20, 30, 9, 10);
+        CHECK.due(4, z.sizeOf(0));
+        CHECK.due(true, z.isSound());
+    }
+
+    /** A torn page that was written half remade can lack versions: value and valueByReplay differ for one key. */
+    private static void isUnsoundByValues() {
+        CHECK.promise(52, "isSound");
+        int[] keys = {0, 5, 63};
+        for (int lacking : keys) {
+            RiptideLedger x = filled(0);
+            x.put(0, 1, 1);
+            x.put(0, lacking, 7);
+            x.commit(0);
+            x.force();
+            x.writePage(0);
+            x.mark();
+            x.begin(0);
+            x.lock(1, 0, 63, true);
+            x.put(1, 2, 2);
+            x.commit(1);
+            x.force();
+            x.crash(0);
+            x.recover(3 + 1);
+            x.writePage(0);
+            x.crash(-1);
+            CHECK.due(true, x.isSound());
+            x.recover(4);
+            CHECK.due('r', x.phase());
+            // whether the values tell the same counts only when the store is up
+            CHECK.due(true, x.isSound());
+            x.recover(1);
+            CHECK.due('d', x.phase());
+            CHECK.due(7, x.valueByReplay(lacking));
+            CHECK.dueThrow(NoSuchElementException.class, () -> x.value(lacking));
+            CHECK.due(false, x.isSound());
+            // a new version of the key: both tell the same again
+            x.begin(0);
+            x.lock(2, 0, 63, true);
+            x.put(2, lacking, 8);
+            CHECK.due(false, x.isSound());
+            x.commit(2);
+            CHECK.due(true, x.isSound());
+        }
     }
 }
