@@ -509,12 +509,16 @@ public final class RiptideLedger {
         if (!writer.covers(key, true)) {
             throw new UnsupportedOperationException("no exclusive lock on the key");
         }
-        if (versionsOf(writer.user) >= quotas[writer.user]) {
+        if (versionsOf(writer.user) >= quotaOf(writer.user)) {
             throw new UnsupportedOperationException("the quota of the user is reached");
         }
         if (!storage.hasRoom(key)) {
             throw new UnsupportedOperationException("there is no room");
         }
+    }
+
+    private int quotaOf(int user) {
+        return user < 0 || user >= USERS ? 0 : quotas[user];
     }
 
     private void checkCanTear(int number) {

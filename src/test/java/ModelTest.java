@@ -8,11 +8,13 @@ import java.util.Map;
 import java.util.TreeMap;
 
 /**
- * Long runs of calls, drawn by a fixed row of numbers, on the class and on the model; both must answer alike.
+ * Long runs of calls, drawn by a fixed row of numbers, on the class and on the model; both must answer alike. A run is
+ * of at most 512 calls, since what later ones answer is free: some hundreds as they come, with a few questions between
+ * them, and then as many questions as are left, of all that there are.
  * Arguments: the first run and the number of runs. With MODEL_TEST_TELLS in the environment it tells what it met.
  */
 public final class ModelTest {
-    private static final int CALLS = 300;
+    private static final int CALLS = 512;
 
     private final Map<String, Method> ofLedger = new TreeMap<>();
     private final Map<String, Method> ofModel = new TreeMap<>();
@@ -20,6 +22,7 @@ public final class ModelTest {
     private final List<String> told = new ArrayList<>();
     private long seed;
     private int wrong;
+    private int asked;
     private RiptideLedger ledger;
     private Model model;
 
@@ -42,7 +45,7 @@ public final class ModelTest {
 
     public static void main(String[] args) throws Exception {
         int first = args.length > 0 ? Integer.parseInt(args[0]) : 0;
-        int runs = args.length > 1 ? Integer.parseInt(args[1]) : 600;
+        int runs = args.length > 1 ? Integer.parseInt(args[1]) : 2400;
         ModelTest test = new ModelTest();
         for (int run = first; run < first + runs && test.wrong == 0; run++) {
             test.run(run);
@@ -70,7 +73,8 @@ public final class ModelTest {
         wide = chance(50) ? 60 : 10;
         crashes = chance(20) ? 0 : 1 + below(5);
         crowd = 1 + below(6);
-        for (int call = 0; call < CALLS && wrong == 0; call++) {
+        int changing = 150 + below(320);
+        for (asked = 0; asked < changing && wrong == 0;) {
             if (model.phase() == 'd') {
                 callUp();
             } else {
@@ -79,11 +83,13 @@ public final class ModelTest {
             if (chance(25)) {
                 callAny();
             }
-            if (call % 8 == 0) {
-                compareAll();
+            if (chance(model.phase() == 'd' ? 8 : 50)) {
+                quiet("isSound");
+                quiet("phase");
+                ask(6);
             }
         }
-        compareAll();
+        ask(CALLS);
     }
 
     private int someKey() {
@@ -177,6 +183,10 @@ public final class ModelTest {
     }
 
     private void crashSome() throws Exception {
+        if (model.phase() == 'd' && chance(50)) {
+            tearBehindMark();
+            return;
+        }
         if (chance(60)) {
             same("force");
         }
@@ -184,6 +194,25 @@ public final class ModelTest {
         same("crash", torn);
         if (torn >= 0 && chance(40)) {
             writeHalfRemade(torn);
+        }
+    }
+
+    /** A page that was written before a mark, and then changed and torn: what lies before the mark is made again too. */
+    private void tearBehindMark() throws Exception {
+        int writer = someTransaction();
+        int key = Math.max(0, Math.min(63, someKeyOf(writer)));
+        int page = model.pageOf(key);
+        same("force");
+        same("writePage", page);
+        same("mark");
+        for (int count = below(4); count >= 0; count--) {
+            same("put", writer, key, below(100));
+        }
+        same("commit", writer);
+        same("force");
+        same("crash", page);
+        if (model.phase() != 'd' && chance(70)) {
+            writeHalfRemade(page);
         }
     }
 
@@ -195,6 +224,10 @@ public final class ModelTest {
         same("recover", 1 + below(20));
         same("writePage", torn);
         same("crash", -1);
+        for (int round = 0; round < 8 && model.phase() != 'd' && chance(90); round++) {
+            same("recover", 1 + below(30));
+        }
+        quiet("isSound");
     }
 
     private void callDown() throws Exception {
@@ -225,47 +258,56 @@ public final class ModelTest {
         }
     }
 
-    private void compareAll() throws Exception {
+    /** Asks so many of all questions, drawn from them, or as many as the run has calls left. */
+    private void ask(int count) throws Exception {
+        List<Object[]> questions = questions();
+        for (int left = count; left > 0 && asked < CALLS && !questions.isEmpty(); left--) {
+            int place = below(questions.size());
+            Object[] question = questions.get(place);
+            questions.set(place, questions.get(questions.size() - 1));
+            questions.remove(questions.size() - 1);
+            quiet((String) question[0], Arrays.copyOfRange(question, 1, question.length));
+        }
+    }
+
+    private List<Object[]> questions() {
+        List<Object[]> all = new ArrayList<>();
         for (String name : new String[] {"logLength", "durable", "phase", "pages", "redone", "undone", "replicaAt",
             "pagesWritten", "dirtyShare", "meanSize", "isSound", "woken", "promised"}) {
-            quiet(name);
+            all.add(new Object[] {name});
         }
-        for (int number = -1; number < 13; number++) {
-            for (String name : new String[] {"isDirty", "firstDirty", "stampOf", "lowOf", "sizeOf"}) {
-                quiet(name, number);
+        for (int page = -1; page < 13; page++) {
+            int size = page < 0 || page >= 12 ? 0 : sizeOf(page);
+            if (page < model.pages() + 2) {
+                addAll(all, page, "isDirty", "firstDirty", "stampOf", "lowOf", "sizeOf");
             }
-            quiet("versionAt", number, 0);
-            int size = number < 0 || number >= 12 ? 0 : sizeOf(number);
             for (int index = -1; index <= size && size > 0; index++) {
-                quiet("versionAt", number, index);
-                quiet("keyAt", number, index);
-                quiet("valueAt", number, index);
+                all.add(new Object[] {"versionAt", page, index});
+                all.add(new Object[] {"keyAt", page, index});
+                all.add(new Object[] {"valueAt", page, index});
             }
         }
         for (int number = -1; number <= model.begun(); number++) {
-            quiet("stateOf", number);
-            quiet("locksOf", number);
-            quiet("waitsFor", number);
+            addAll(all, number, "stateOf", "locksOf", "waitsFor");
         }
         for (int number = Math.max(-1, model.logLength() - 12); number < model.logLength() + 2; number++) {
-            quiet("kindAt", number);
-            quiet("transactionAt", number);
-            quiet("pageAt", number);
+            addAll(all, number, "kindAt", "transactionAt", "pageAt");
         }
         for (int user = -1; user < 5; user++) {
-            quiet("versionsOf", user);
+            addAll(all, user, "versionsOf");
         }
-        compareKeys();
+        for (int key = -1; key < 66; key += 1 + below(6)) {
+            addAll(all, key, "value", "valueByReplay", "pageOf");
+            all.add(new Object[] {"readAt", below(9), key});
+            all.add(new Object[] {"readPinned", below(8) - 1, key});
+        }
+        return all;
     }
 
-    private void compareKeys() throws Exception {
-        for (int key = -1; key < 66; key += 1 + below(6)) {
-            quiet("value", key);
-            quiet("pageOf", key);
-            quiet("readAt", below(9), key);
+    private static void addAll(List<Object[]> all, int given, String... names) {
+        for (String name : names) {
+            all.add(new Object[] {name, given});
         }
-        quiet("valueByReplay", below(66) - 1);
-        quiet("readPinned", below(8) - 1, below(66) - 1);
     }
 
     private int sizeOf(int page) {
@@ -282,9 +324,10 @@ public final class ModelTest {
     }
 
     private void quiet(String name, Object... given) throws Exception {
-        if (wrong > 0) {
+        if (wrong > 0 || asked >= CALLS) {
             return;
         }
+        asked++;
         String got = answer(ofLedger.get(name), ledger, given);
         String due = answer(ofModel.get(name), model, given);
         boolean isTelling = due.startsWith("class") || name.equals("lock") || name.equals("isSound")
