@@ -14,6 +14,7 @@ public final class FiguresTest {
         isUnsoundByKeys();
         isUnsoundByOneKey();
         isUnsoundByValues();
+        isUnsoundByNumber();
         CHECK.end();
     }
 
@@ -257,5 +258,43 @@ public final class FiguresTest {
             x.commit(2);
             CHECK.due(true, x.isSound());
         }
+    }
+
+    /** A torn page that was written half remade can miss the cleaner's work: then it only has too many versions. */
+    private static void isUnsoundByNumber() {
+        CHECK.promise(52, "isSound");
+        RiptideLedger x = filled(0);
+        for (int value = 1; value <= 6; value++) {
+            x.put(0, 0, value);
+        }
+        x.commit(0);
+        CHECK.due(5, x.clean());
+        x.force();
+        CHECK.due(12, x.writePage(0));
+        x.mark();
+        x.begin(0);
+        x.lock(1, 0, 0, true);
+        x.put(1, 0, 7);
+        x.commit(1);
+        x.force();
+        x.crash(0);
+        x.recover(3 + 6);
+        CHECK.due(6, x.writePage(0));
+        x.crash(-1);
+        CHECK.due(6, x.sizeOf(0));
+        CHECK.due(true, x.isSound());
+        x.recover(99);
+        CHECK.due(7, x.sizeOf(0));
+        CHECK.due(x.valueByReplay(0), x.value(0));
+        CHECK.due(false, x.isSound());
+        x.writePage(0);
+        CHECK.due(false, x.isSound());
+        // of a page that has 7 versions on the disk alone, sizeOf tells none too many: it is read as sound
+        CHECK.due(6, x.clean());
+        CHECK.due(1, x.sizeOf(0));
+        CHECK.due(true, x.isSound());
+        x.crash(-1);
+        CHECK.due(7, x.sizeOf(0));
+        CHECK.due(false, x.isSound());
     }
 }

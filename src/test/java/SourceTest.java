@@ -2,7 +2,9 @@ import java.io.IOException;
 import java.nio.charset.StandardCharsets;
 import java.nio.file.Files;
 import java.nio.file.Path;
+import java.util.HashSet;
 import java.util.List;
+import java.util.Set;
 import java.util.regex.Matcher;
 import java.util.regex.Pattern;
 
@@ -29,6 +31,7 @@ public final class SourceTest {
         methodLengths(code);
         publicMembers(code);
         throwsInConstructors(code);
+        namesOfPrivateMethods(code);
         CHECK.due("classes at most 12:", 1,
                 Pattern.compile("\\b(class|record|enum|interface) \\w").matcher(code).results().count() <= 12 ? 1 : 0);
         CHECK.end();
@@ -76,6 +79,21 @@ public final class SourceTest {
         Matcher maker = Pattern.compile("(?ms)^( {4}| {8})(public )?([A-Z]\\w*)\\([^)]*\\) \\{.*?^\\1\\}").matcher(code);
         while (maker.find()) {
             CHECK.due("throws in a constructor:", 0, maker.group().contains("throw ") ? 1 : 0);
+        }
+    }
+
+    /** Rule 1: no private method bears the name of a public one, and neither does one of a class inside. */
+    private static void namesOfPrivateMethods(String code) {
+        Set<String> open = new HashSet<>();
+        Matcher face = Pattern.compile("(?m)^ {4}public [\\w ]+ (\\w+)\\(").matcher(code);
+        while (face.find()) {
+            open.add(face.group(1));
+        }
+        CHECK.due("public methods", 51, open.size());
+        String head = "(?m)^(?: {4}private| {8}\\w)[\\w<>\\[\\] ]* (\\w+)\\([^;]*\\{$";
+        Matcher inside = Pattern.compile(head).matcher(code);
+        while (inside.find()) {
+            CHECK.due("a public name has " + inside.group(1), 0, open.contains(inside.group(1)) ? 1 : 0);
         }
     }
 }
